@@ -287,14 +287,14 @@ public final class WideNet {
             int c = number(row, from + 8, 4) ^ k[2];
             int d = number(row, from + 12, 4) ^ k[3];
             for (int i = 4; i < 4 * ROUNDS; i += 4) {
-                int p = mixed(gathered(SUBSTITUTES, a, b, c, d)) ^ k[i];
-                int q = mixed(gathered(SUBSTITUTES, b, c, d, a)) ^ k[i + 1];
-                int r = mixed(gathered(SUBSTITUTES, c, d, a, b)) ^ k[i + 2];
-                int s = mixed(gathered(SUBSTITUTES, d, a, b, c)) ^ k[i + 3];
-                a = p;
-                b = q;
-                c = r;
-                d = s;
+                int p = gathered(SUBSTITUTES, a, b, c, d);
+                int q = gathered(SUBSTITUTES, b, c, d, a);
+                int r = gathered(SUBSTITUTES, c, d, a, b);
+                int s = gathered(SUBSTITUTES, d, a, b, c);
+                a = mixed(p, doubled(p)) ^ k[i];
+                b = mixed(q, doubled(q)) ^ k[i + 1];
+                c = mixed(r, doubled(r)) ^ k[i + 2];
+                d = mixed(s, doubled(s)) ^ k[i + 3];
             }
             int last = 4 * ROUNDS;
             putNumber(row, from, gathered(SUBSTITUTES, a, b, c, d) ^ k[last], 4);
@@ -312,14 +312,14 @@ public final class WideNet {
             int c = number(row, from + 8, 4) ^ k[last + 2];
             int d = number(row, from + 12, 4) ^ k[last + 3];
             for (int i = last - 4; i > 0; i -= 4) {
-                int p = unmixed(gathered(ORIGINALS, a, d, c, b) ^ k[i]);
-                int q = unmixed(gathered(ORIGINALS, b, a, d, c) ^ k[i + 1]);
-                int r = unmixed(gathered(ORIGINALS, c, b, a, d) ^ k[i + 2]);
-                int s = unmixed(gathered(ORIGINALS, d, c, b, a) ^ k[i + 3]);
-                a = p;
-                b = q;
-                c = r;
-                d = s;
+                int p = gathered(ORIGINALS, a, d, c, b);
+                int q = gathered(ORIGINALS, b, a, d, c);
+                int r = gathered(ORIGINALS, c, b, a, d);
+                int s = gathered(ORIGINALS, d, c, b, a);
+                a = unmixed(p ^ k[i]);
+                b = unmixed(q ^ k[i + 1]);
+                c = unmixed(r ^ k[i + 2]);
+                d = unmixed(s ^ k[i + 3]);
             }
             putNumber(row, from, gathered(ORIGINALS, a, d, c, b) ^ k[0], 4);
             putNumber(row, from + 4, gathered(ORIGINALS, b, a, d, c) ^ k[1], 4);
@@ -340,8 +340,7 @@ public final class WideNet {
             return ((column & 0x7f7f7f7f) << 1) ^ (((column >>> 7) & 0x01010101) * 27);
         }
 
-        private static int mixed(int column) {
-            int twice = doubled(column);
+        private static int mixed(int column, int twice) {
             int thrice = column ^ twice;
             return twice
                 ^ (thrice >>> 8 | thrice << 24)
@@ -352,7 +351,8 @@ public final class WideNet {
         /** Mixing four times gives a column back, so this mixes thrice, the first two times in one step. */
         private static int unmixed(int column) {
             int opposites = column ^ (column >>> 16 | column << 16);
-            return mixed(column ^ doubled(doubled(opposites)));
+            int mixedTwice = column ^ doubled(doubled(opposites));
+            return mixed(mixedTwice, doubled(mixedTwice));
         }
     }
 
@@ -410,7 +410,6 @@ public final class WideNet {
     /** A row of bytes that goes up, or down to a device. */
     private static final class Frame {
         private static final int MOST_BYTES = 24;
-        private static final int MOST_OPTIONS = 3;
         private static final int LEAST_DATA = 12;
         private static final int JOIN_DEVICE = 9;
         private static final int JOIN_NONCE = 17;
@@ -475,7 +474,7 @@ public final class WideNet {
                 return false;
             }
             int more = size - LEAST_DATA - optionCount();
-            return optionCount() <= MOST_OPTIONS && (more == 0 || more >= 2 && more <= MOST_PAYLOAD_BYTES + 1);
+            return more == 0 || more >= 2 && more <= MOST_PAYLOAD_BYTES + 1;
         }
 
         int address() {

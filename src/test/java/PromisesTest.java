@@ -39,6 +39,9 @@ public final class PromisesTest {
         hearCountWindow();
         hearSpoiledData();
         hearOldSession();
+        hearForgedData();
+        hearForgedNonce();
+        sessionsBeginAnew();
         reachAnswers();
         reachAccept();
         reachAcceptWindow();
@@ -48,6 +51,7 @@ public final class PromisesTest {
         reachConfirmedNeedsAcknowledgement();
         reachUnconfirmedIsNeverAcknowledged();
         reachSpoiledData();
+        reachForgedData();
         loseFrames();
         replayFrames();
         replayRemembersWhatWasSent();
@@ -791,22 +795,64 @@ public final class PromisesTest {
         Due.is("spoiled ones make nothing due", x.frames(), 1);
         x.hear(0, 0);
         Due.is("the whole one", x.received(0, true), 1);
-        WideNet y = joined(0);
-        y.send(0, 1, 1, false, false);
-        spoilInto(y, 0, downLike(0, 1, 1));
-        y.hear(0, 0);
-        Due.is("a head that does not go up", y.received(0, true), 0);
     }
 
-    /** A frame up that is right but for its head. */
-    private static byte[] downLike(long count, long payload, int n) {
-        byte[][] keys = firstKeys(0);
-        long address = Crypt.address(0, 1);
-        byte[] frame = upFrame(0, false, false, count, payload, n);
-        frame[0] = 96;
+    /** The frame with byte i changed into value, and with a code that is right for that. */
+    private static byte[] forged(byte[] frame, int direction, int i, int value) {
         byte[] before = java.util.Arrays.copyOf(frame, frame.length - 4);
-        System.arraycopy(Crypt.dataCode(keys[0], 0, address, count, before), 0, frame, before.length, 4);
-        return frame;
+        before[i] = (byte) value;
+        byte[] code = Crypt.dataCode(firstKeys(0)[0], direction, Crypt.address(0, 1), 0, before);
+        return new Crypt.Row().all(before).all(code).done();
+    }
+
+    private static void hearForgedData() {
+        // Byte, its value, and whether it is an answerable frame then: head, address, and a control without options.
+        int[][] cases = {{0, 128, 1}, {0, 96, 0}, {0, 32, 0}, {0, 0, 0}, {1, 2, 0}, {4, 39, 0}, {5, 0, 0}};
+        for (int[] one : cases) {
+            WideNet x = joined(0);
+            x.send(0, 1, 0, true, true);
+            spoilInto(x, 0, forged(upFrame(0, true, true, 0, 1, 0), 0, one[0], one[1]));
+            x.hear(0, 0);
+            x.tick(1);
+            Due.is("a forged frame up, byte " + one[0] + " as " + one[1], x.frames(), 1 + one[2]);
+        }
+    }
+
+    private static void hearForgedNonce() {
+        byte[] root = Crypt.root(SEED, 0);
+        WideNet x = new WideNet(SEED);
+        x.join(0);
+        spoilInto(x, 0, Crypt.joinFrame(root, 0, 0xabcd));
+        x.hear(0, 0);
+        x.tick(1);
+        x.reach(1);
+        x.lose(0);
+        x.send(0, 7, 1, false, false);
+        x.hear(0, 0);
+        Due.is("the device has another nonce", x.received(0, true), 0);
+        spoilInto(x, 0, Crypt.dataFrame(Crypt.keys(root, 1, 0xabcd), 64, Crypt.address(0, 1), 0, 0, new int[0],
+            Crypt.lowest(7, 1)));
+        x.hear(0, 0);
+        Due.is("both bytes of a nonce make the keys", x.received(0, true), 1);
+    }
+
+    private static void sessionsBeginAnew() {
+        WideNet x = joined(0);
+        for (int session = 1; session <= 3; session++) {
+            for (int count = 0; count < 3; count++) {
+                x.queue(0, 10 * session + count, 1);
+                Due.is("count up", x.send(0, 1, 1, true, false), count);
+                x.hear(0, 0);
+                x.tick(1);
+                bytes("count down", x, 1, Crypt.dataFrame(Crypt.keys(Crypt.root(SEED, 0), session, session), 96,
+                    Crypt.address(0, session), 32, count, new int[0], Crypt.lowest(10 * session + count, 1)));
+                x.reach(1);
+                x.lose(0);
+                Due.is("acknowledged", x.tally(0, 0), 3 * (session - 1) + count + 1);
+                Due.is("received", x.received(0, true), 3 * (session - 1) + count + 1);
+            }
+            bringIn(x, 0);
+        }
     }
 
     private static void hearOldSession() {
@@ -869,11 +915,24 @@ public final class PromisesTest {
             x.reach(2);
             Due.is("a spoiled accept, byte " + i, x.state(1), 11);
         }
+        x.replay(0);
+        spoilInto(x, 2, otherHead());
+        x.reach(2);
+        Due.is("a right code for another head", x.state(1), 11);
         x.reach(1);
         Due.is("in, and waits no more", x.state(1), 2);
         x.lose(0);
         x.send(1, 3, 1, false, false);
         bytes("with the session's keys", x, 0, upFrame(1, false, false, 0, 3, 1));
+    }
+
+    /** An ACCEPT with the head 33, and the code that would be right for that. */
+    private static byte[] otherHead() {
+        byte[] root = Crypt.root(SEED, 1);
+        byte[] twelve = new Crypt.Row().number(1, 3).add(19, 0, 0).number(Crypt.address(1, 1), 4).add(0, 1).done();
+        byte[] code = Crypt.code(root, new Crypt.Row().add(33).all(twelve).done());
+        byte[] sixteen = new Crypt.Row().all(twelve).all(code).done();
+        return new Crypt.Row().add(33).all(Crypt.inverse(root, sixteen)).done();
     }
 
     private static void reachAcceptWindow() {
@@ -1058,6 +1117,20 @@ public final class PromisesTest {
         Due.is("no check", x.tally(0, 2), 0);
         x.reach(1);
         Due.is("the whole one", x.payload(0, false, 0), 0x0102);
+    }
+
+    private static void reachForgedData() {
+        // Byte, its value, and whether the frame is taken then.
+        int[][] cases = {{0, 96, 1}, {0, 64, 0}, {0, 128, 0}, {0, 32, 0}, {1, 2, 0}, {2, 2, 0}, {5, 2, 0}};
+        for (int[] one : cases) {
+            WideNet x = joined(0);
+            x.send(0, 1, 1, false, true);
+            x.hear(0, 0);
+            x.tick(1);
+            spoilInto(x, 1, forged(downFrame(0, 3, 0, 1, 0, 0), 1, one[0], one[1]));
+            x.reach(1);
+            Due.is("a forged frame down, byte " + one[0] + " as " + one[1], x.state(0), one[2] == 1 ? 2 : 12);
+        }
     }
 
     // Promise 9

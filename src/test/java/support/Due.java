@@ -21,10 +21,6 @@ final class Due {
         is(call, got ? 1 : 0, want ? 1 : 0);
     }
 
-    static boolean anyWrong() {
-        return wrong > 0;
-    }
-
     static void end() {
         System.out.println(looked + " answers looked at, " + wrong + " not as due");
         if (wrong > 0 || looked == 0) {
