@@ -33,6 +33,7 @@ public final class FaceTest {
     }
 
     public static void main(String[] args) {
+        Due.by("LANGUAGE.md, rules 1, 5 and 11");
         Set<String> seen = new TreeSet<>();
         for (Field field : WideNet.class.getDeclaredFields()) {
             note(seen, field.getModifiers(), field.toString());

@@ -11,6 +11,7 @@ public final class RoomTest {
     }
 
     public static void main(String[] args) {
+        Due.by("All calls of one run live in one room");
         ThreadMXBean threads = (ThreadMXBean) ManagementFactory.getThreadMXBean();
         long id = Thread.currentThread().getId();
         useUp(new WideNet(1));

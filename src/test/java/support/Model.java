@@ -358,6 +358,25 @@ final class Model {
         }
     }
 
+    /**
+     * A frame of the k-th one's length and way, from device d or to the device it goes to, with a right code for this
+     * head, control and a count that is so much more than the greatest one; null when there is no session for that.
+     */
+    byte[] forged(int k, int d, int head, int control, long more) {
+        Flying frame = underWay.get(k);
+        boolean up = frame.goal == 3;
+        Session session = up ? sides[d].served : sides[frame.goal].session;
+        if (session == null) {
+            return null;
+        }
+        long count = Math.max(0, session.greatest + more);
+        byte[] before = new Crypt.Row().add(head).number(session.address, 4).add(control).number(count, 2)
+            .add(2, 10, 2).zeros(frame.bytes.length).done();
+        before = Arrays.copyOf(before, frame.bytes.length - 4);
+        return new Crypt.Row().all(before)
+            .all(Crypt.dataCode(session.keys[0], up ? 0 : 1, session.address, count, before)).done();
+    }
+
     boolean lose(int k) {
         if (none(k)) {
             return false;
