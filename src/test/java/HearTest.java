@@ -10,6 +10,7 @@ public final class HearTest {
         staysUnderWay();
         nothingToBeMadeOf();
         joinIsAccepted();
+        acceptsOfManySeeds();
         nonceMustBeGreater();
         nonceZeroIsGreaterThanNone();
         nonceOfEachDevice();
@@ -115,6 +116,27 @@ public final class HearTest {
             x.tick(1);
             Due.is("goal", x.goal(1), d);
             Scene.bytes("ACCEPT", x, 1, Scene.acceptFrame(d, 1, 1));
+        }
+    }
+
+    /** So many blocks that each entry of the tables of AES and of its inverse is used. */
+    private static void acceptsOfManySeeds() {
+        Due.by("Terms: ACCEPT: 32; then the INVERSE, with the root key, of the sixteen bytes");
+        for (int seed = -40; seed < 40; seed++) {
+            Net x = new Net(seed);
+            for (int d = 0; d < 3; d++) {
+                x.join(d);
+                x.hear(d, 0);
+            }
+            x.tick(1);
+            for (int d = 0; d < 3; d++) {
+                Scene.bytes("seed " + seed, x, 3 + d,
+                    Crypt.acceptFrame(Crypt.root(seed, d), d + 1, Crypt.address(d, 1)));
+            }
+            for (int d = 0; d < 3; d++) {
+                x.reach(3);
+                Due.is("it is taken", x.state(d), 2);
+            }
         }
     }
 
